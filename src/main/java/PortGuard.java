@@ -51,7 +51,7 @@ public final class PortGuard {
     private final Host[] hosts;
     private final Server[] servers;
     private final Switch guard;
-    private final Row draft;
+    private final Row drafted;
     private final Row arrived;
 
     public PortGuard(int shared) {
@@ -66,7 +66,7 @@ public final class PortGuard {
             servers[s] = new Server(s, shared, users, mail);
         }
         guard = new Switch(shared, mail);
-        draft = new Row();
+        drafted = new Row();
         arrived = new Row();
     }
 
@@ -157,21 +157,21 @@ public final class PortGuard {
     }
 
     public boolean draft(long v, int n) {
-        if (n < 1 || n > 8 || draft.size + n > ROOM) {
+        if (n < 1 || n > 8 || drafted.size + n > ROOM) {
             return false;
         }
         for (int i = 0; i < n; i++) {
-            draft.put((int) (v >>> (8 * i)));
+            drafted.put((int) (v >>> (8 * i)));
         }
         return true;
     }
 
     public boolean forge(int way, int place) {
-        if (!isPlace(way, place) || draft.size == 0) {
+        if (!isPlace(way, place) || drafted.size == 0) {
             return false;
         }
-        mail.send(way, place, draft);
-        draft.clear();
+        mail.send(way, place, drafted);
+        drafted.clear();
         return true;
     }
 
@@ -543,7 +543,7 @@ public final class PortGuard {
             }
         }
 
-        /** The one that seals it must follow: the seal's bytes are 0 till then. */
+        /** Must be sealed then: the seal's bytes are 0 till that. */
         void write(int code, int id, int authenticatorOfRequest, int nameOrNone, int tokenOrNone, Packet content) {
             row.clear();
             row.put(code);
@@ -567,7 +567,6 @@ public final class PortGuard {
             sealAt = row.size;
             row.putInt(0);
             row.set(2, row.size);
-            authenticator = authenticatorOfRequest;
         }
 
         private void writePieces(Packet content) {
@@ -580,28 +579,26 @@ public final class PortGuard {
         }
 
         void sealRequest(int key) {
-            seal = Digest.macOfRow(key, row);
-            row.setInt(sealAt, seal);
+            row.setInt(sealAt, Digest.macOfRow(key, row));
         }
 
-        /** The request's AUTHENTICATOR, with which it was written, is sealed too ahead of its own. */
+        /** Its own AUTHENTICATOR comes last: the request's, with which it was written, is sealed. */
         void sealAnswer(int key) {
             sealRequest(key);
-            authenticator = Digest.hashOfRow(row, key);
-            row.setInt(AUTHENTICATOR_AT, authenticator);
+            row.setInt(AUTHENTICATOR_AT, Digest.hashOfRow(row, key));
         }
 
-        /** These two leave the row changed: what it said is kept in authenticator and seal. */
-        int sealFor(int key, int authenticatorOfRequest) {
+        /** The row has the request's AUTHENTICATOR from then on; what it had is kept in the field. */
+        boolean isSealed(int key, int authenticatorOfRequest) {
             row.setInt(AUTHENTICATOR_AT, authenticatorOfRequest);
             row.setInt(sealAt, 0);
-            return Digest.macOfRow(key, row);
+            boolean right = Digest.macOfRow(key, row) == seal;
+            row.setInt(sealAt, seal);
+            return right;
         }
 
-        int authenticatorFor(int key, int authenticatorOfRequest) {
-            row.setInt(AUTHENTICATOR_AT, authenticatorOfRequest);
-            row.setInt(sealAt, seal);
-            return Digest.hashOfRow(row, key);
+        boolean isAnswerTo(int key, int authenticatorOfRequest) {
+            return isSealed(key, authenticatorOfRequest) && Digest.hashOfRow(row, key) == authenticator;
         }
     }
 
@@ -924,7 +921,7 @@ public final class PortGuard {
 
         private boolean accepts(Row row) {
             return request.read(row) && request.code() == ASK && request.name != NONE
-                && request.sealFor(key, request.authenticator) == request.seal;
+                && request.isSealed(key, request.authenticator);
         }
 
         private int slotOfRequest() {
@@ -1316,7 +1313,7 @@ public final class PortGuard {
 
         void takeAnswer(int server, Row row) {
             Port port = answer.read(row) ? portAwaiting(server, answer.id()) : null;
-            if (port == null || !fits() || !isGenuine(port)) {
+            if (port == null || !fits() || !answer.isAnswerTo(key, port.query.intAt(Datagram.AUTHENTICATOR_AT))) {
                 wrongs++;
                 return;
             }
@@ -1359,12 +1356,6 @@ public final class PortGuard {
                 default:
                     return false;
             }
-        }
-
-        private boolean isGenuine(Port port) {
-            int asked = port.query.intAt(Datagram.AUTHENTICATOR_AT);
-            return answer.sealFor(key, asked) == answer.seal
-                && answer.authenticatorFor(key, asked) == answer.authenticator;
         }
 
         private void admit(Port port) {

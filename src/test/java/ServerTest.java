@@ -9,6 +9,7 @@ public final class ServerTest {
         otherForms();
         challenge();
         mutual();
+        wrongProofs();
         changes();
         rejects();
         fourSessions();
@@ -80,9 +81,12 @@ public final class ServerTest {
         }
         int[][] rows = {
             {1}, Wire.part(right, 1), Wire.cat(right, Wire.row(0)), Wire.with(right, 2, Wire.row(right.length - 1)),
+            Wire.sealed(KEY, Wire.with(right, 2, Wire.row(right.length - 1)), right.length - 6),
+            Wire.sealed(KEY, Wire.with(right, 2, Wire.row(right.length + 1)), right.length - 6),
             java.util.Arrays.copyOf(right, right.length - 1), Wire.request(KEY + 1, 1, 2, 1, -1, packet),
             Wire.bare(1, 1, 2, n, p), Wire.bare(1, 1, 2), Wire.cat(Wire.row(1, 1, 8), Wire.four(2), Wire.row(80)),
-            twoSeals(n, p)};
+            behindSeal(n, p, 79, 4, 0), behindSeal(n, p, 1), behindSeal(n, p, 1, 0, 0), behindSeal(n, p, 2, 3, 0),
+            behindSeal(n, p, Wire.SEAL), twoSeals(n, p)};
         for (int[] row : rows) {
             b.bring(2, 1, row);
             wrongs++;
@@ -99,6 +103,11 @@ public final class ServerTest {
         Check.due("the right one", b.x.server(1, 2), 1);
         Check.due("is not counted", b.x.wrong(2), wrongs);
         Check.due("none at the switch", b.x.wrong(0) + b.x.wrong(1), 0);
+    }
+
+    private static int[] behindSeal(int[] name, int[] pieces, int... more) {
+        int[] row = Wire.bare(1, 1, 2, name, pieces, Wire.SEAL, more);
+        return Wire.sealed(KEY, row, row.length - more.length - 6);
     }
 
     private static int[] twoSeals(int[] name, int[] pieces) {
@@ -158,8 +167,33 @@ public final class ServerTest {
         Check.bytes("the last one too early", ask(b, 1, 1, early), due(3, -1, Wire.packet(4, 8)));
         ask(b, 1, -1, Wire.packet(2, 7, 1, 2));
         int third = random(22, 1, 2);
-        ask(b, 1, 2, firstProof(8, 22, third, 5));
+        int[] again = typed(1, 9, Wire.row(51), proof(3, 22, 5, third));
+        Check.bytes("the proof of a new session", ask(b, 1, 2, firstProof(8, 22, third, 5)), due(11, 2, again));
         Check.bytes("the first one twice", ask(b, 1, 2, firstProof(9, 22, third, 5)), due(3, -1, Wire.packet(4, 9)));
+    }
+
+    private static void wrongProofs() {
+        int random = random(22, 0, 0);
+        int[] right = Wire.part(firstProof(8, 22, random, 5), 3);
+        int[][] firsts = {
+            Wire.with(right, 1, Wire.row(4)), Wire.with(right, 5, Wire.row(right[5] ^ 1)), Wire.with(right, 0, Wire.row(4)),
+            Wire.with(right, 9, Wire.row(right[9] ^ 1)), Wire.cat(right, Wire.row(0)), Wire.row(51), Wire.row(51, 2)};
+        for (int[] content : firsts) {
+            Bench b = bench();
+            ask(b, 0, -1, Wire.packet(2, 7, 1, 2));
+            Check.bytes("a wrong first proof", ask(b, 0, 0, Wire.packet(2, 8, content)), due(3, -1, Wire.packet(4, 8)));
+        }
+        int[] last = Wire.cat(Wire.row(51), proof(4, 22, random, 5));
+        int[][] lasts = {
+            Wire.with(last, 1, Wire.row(2)), Wire.with(last, 5, Wire.row(last[5] ^ 1)), Wire.cat(last, Wire.row(0)),
+            Wire.with(last, 0, Wire.row(4)), Wire.row(51), Wire.row(51, 4)};
+        for (int[] content : lasts) {
+            Bench b = bench();
+            ask(b, 0, -1, Wire.packet(2, 7, 1, 2));
+            ask(b, 0, 0, Wire.packet(2, 8, right));
+            Check.bytes("a wrong last proof", ask(b, 0, 0, Wire.packet(2, 9, content)), due(3, -1, Wire.packet(4, 9)));
+            Check.due("the session is gone", b.x.server(0, 1), 0);
+        }
     }
 
     /** A REFUSAL makes the other method begin, if it may. */
