@@ -2,28 +2,29 @@ import java.util.Random;
 
 /** Rule 7 of the language: no arguments in any state make a call throw, and all answers stay in their range. */
 public final class ArgumentsTest {
+    private static final int RUNS = 1500;
     private static final int[] EDGES = {
         Integer.MIN_VALUE, -256, -3, -2, -1, 0, 1, 2, 3, 4, 5, 7, 8, 9, 11, 12, 39, 40, 47, 48, 50, 51, 255, 256,
         Integer.MAX_VALUE - 3, Integer.MAX_VALUE};
 
     private final Random random;
-    private final PortGuard x;
+    private final Guard x;
 
     private ArgumentsTest(int seed) {
         random = new Random(seed);
-        x = new PortGuard(random.nextInt());
+        x = new Guard(random.nextInt());
     }
 
     public static void main(String[] args) {
-        for (int seed = 0; seed < 300; seed++) {
+        Check.says("No call may ever throw by itself (rule 7 of the language)");
+        for (int seed = 0; seed < RUNS; seed++) {
             ArgumentsTest run = new ArgumentsTest(seed);
-            int call = 0;
             try {
-                for (; call < 1500; call++) {
+                while (run.x.calls() < Guard.PROMISED - 1) {
                     run.any(run.random.nextInt(24));
                 }
             } catch (RuntimeException e) {
-                Check.yes("run " + seed + ", call " + call + ": " + e, false);
+                Check.yes("run " + seed + ", call " + run.x.calls() + ": " + e, false);
             }
             Check.yes("at most 40 wait", run.x.waiting() <= 40);
         }
@@ -49,16 +50,20 @@ public final class ArgumentsTest {
             case 6 -> x.draft(random.nextLong(), edge());
             case 7 -> x.forge(small(), small());
             case 8 -> x.tick();
-            case 9 -> x.data(small(), small(), small());
-            case 10 -> x.message(small(), edge());
-            case 11 -> x.port(small(), edge());
-            case 12 -> x.station(small(), edge());
-            case 13 -> x.server(small(), edge());
-            case 14 -> x.wrong(edge());
-            case 15 -> x.learned(edge());
+            case 9 -> inRange("data", x.data(small(), small(), small()), -1, 15);
+            case 10 -> inRange("message", x.message(small(), edge()), -1, 255);
+            case 11 -> inRange("port", x.port(small(), edge()), -2, 65535);
+            case 12 -> inRange("station", x.station(small(), edge()), -2, Guard.PROMISED);
+            case 13 -> inRange("server", x.server(small(), edge()), -2, Guard.PROMISED);
+            case 14 -> inRange("wrong", x.wrong(edge()), -1, Guard.PROMISED);
+            case 15 -> inRange("learned", x.learned(edge()), -1, 3);
             case 16 -> x.pass(edge(), edge());
             case 17 -> x.draft(edge(), 1);
             default -> x.pass(random.nextInt(3), 0);
         }
+    }
+
+    private static void inRange(String call, int answer, int least, int most) {
+        Check.yes(call + " answered " + answer, answer >= least && answer <= most);
     }
 }

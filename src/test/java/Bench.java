@@ -1,54 +1,93 @@
-/** A PortGuard with what tests do again and again. */
+import java.util.function.Consumer;
+
+/** A PortGuard with what tests do again and again. What is looked at here makes no call of it. */
 final class Bench {
+    static final int[] FAR = {Integer.MIN_VALUE, Integer.MIN_VALUE + 1, -256, 256, Integer.MAX_VALUE - 1, Integer.MAX_VALUE};
+
     final int key;
-    final PortGuard x;
+    final Guard x;
 
     Bench(int key) {
         this.key = key;
-        x = new PortGuard(key);
+        x = new Guard(key);
+    }
+
+    View view() {
+        return View.of(x);
+    }
+
+    int waiting() {
+        return view().waiting();
     }
 
     int[] bytes(int k) {
-        int[] row = new int[Math.max(0, x.message(k, 2))];
-        for (int i = 0; i < row.length; i++) {
-            row[i] = x.message(k, 3 + i);
-        }
-        return row;
+        return view().bytes(k);
     }
 
     int[] latest() {
-        return bytes(x.waiting() - 1);
+        View view = view();
+        return view.bytes(view.waiting() - 1);
+    }
+
+    void port(String what, int p, int... want) {
+        Check.first(what + ": port " + p, view().port(p), want);
+    }
+
+    void draft(int... row) {
+        for (int from = 0; from < row.length; from += 8) {
+            long v = 0;
+            int n = Math.min(8, row.length - from);
+            for (int i = 0; i < n; i++) {
+                v |= (long) row[from + i] << 8 * i;
+            }
+            x.draft(v, n);
+        }
     }
 
     /** Sends a row by draft and forge. */
     void forge(int way, int place, int... row) {
-        for (int b : row) {
-            x.draft(b, 1);
-        }
+        draft(row);
         x.forge(way, place);
     }
 
     /** Delivers a row at once, ahead of all that waits; what it sends is the latest message. */
     void bring(int way, int place, int... row) {
         forge(way, place, row);
-        x.pass(x.waiting() - 1, 0);
+        x.pass(waiting() - 1, 0);
     }
 
     void passAll() {
-        for (int n = 0; n < 1000 && x.waiting() > 0; n++) {
+        while (x.pass(0, 0)) {
+            continue;
+        }
+    }
+
+    void pass(int n) {
+        for (int i = 0; i < n; i++) {
             x.pass(0, 0);
         }
     }
 
     void loseAll() {
-        while (x.waiting() > 0) {
-            x.pass(0, 1);
+        while (x.pass(0, 1)) {
+            continue;
         }
     }
 
     void ticks(int n) {
         for (int i = 0; i < n; i++) {
             x.tick();
+        }
+    }
+
+    /** Other messages wait behind those that do, till there are n in all. */
+    void fill(int n) {
+        int first = waiting();
+        if (first < n) {
+            forge(3, 1, 9);
+        }
+        for (int k = first + 1; k < n; k++) {
+            x.pass(first, 2);
         }
     }
 
@@ -60,48 +99,78 @@ final class Bench {
         passAll();
     }
 
-    /** Nothing waits, and port p (with a new link) has asked the favourite server for user u. */
+    /** Port p gets a link and asks the favourite server for user u. The request is the latest message. */
     void query(int p, int u) {
         x.link(p, true);
         int id = latest()[2];
-        loseAll();
+        x.pass(waiting() - 1, 1);
         bring(0, p, Wire.frame(Wire.packet(2, id, 1, u)));
     }
 
-    /** All that can be asked of the object, but for the messages' bytes. */
-    String state() {
-        StringBuilder text = new StringBuilder();
-        for (int p = 0; p < 4; p++) {
-            text.append("\nport ").append(p).append(':');
-            for (int what = 0; what < 12; what++) {
-                text.append(' ').append(x.port(p, what));
-            }
-            text.append(" host:");
-            for (int what = 0; what < 5; what++) {
-                text.append(' ').append(x.station(p, what));
-            }
-        }
-        for (int s = 0; s < 2; s++) {
-            text.append("\nserver ").append(s).append(':');
-            for (int what = 0; what < 4; what++) {
-                text.append(' ').append(x.server(s, what));
-            }
-        }
-        text.append("\nlearned:");
-        for (int a = 0; a < 8; a++) {
-            text.append(' ').append(x.learned(a));
-        }
-        text.append("\nwrong: ").append(x.wrong(0)).append(' ').append(x.wrong(1)).append(' ').append(x.wrong(2));
-        text.append(" favourite: ").append(x.favourite());
-        return text.append(" waiting: ").append(x.waiting()).toString();
+    /**
+     * Much is going on: port 0 is open, 1 has a query amid a mutual proof, 2 is held and 3 is asking; two users are known;
+     * server 0 has a session and answers; hosts have a latest response, proof and results; a draft has three bytes;
+     * and messages wait.
+     */
+    static Bench busy() {
+        Bench b = new Bench(0x5EED);
+        b.open(0, 1);
+        b.x.data(0, 4, 8);
+        b.x.host(2, 1, 7, 1);
+        b.x.link(2, true);
+        b.passAll();
+        b.x.user(5, 55, 2);
+        b.x.host(1, 5, 55, 2);
+        b.x.link(1, true);
+        b.pass(6);
+        b.x.host(3, 5, 55, 2);
+        b.x.link(3, true);
+        b.x.start(0, true);
+        b.draft(0, 4, 0);
+        b.ticks(2);
+        return b;
     }
 
-    String messages() {
-        StringBuilder text = new StringBuilder();
-        for (int k = 0; k < x.waiting(); k++) {
-            text.append('\n').append(x.message(k, 0)).append(' ').append(x.message(k, 1)).append(' ');
-            text.append(java.util.Arrays.toString(bytes(k)));
+    /**
+     * All that can be asked after a call, at once and when the draft was sent, messages passed, hosts started and
+     * time went by, so that what can't be asked comes to light too.
+     */
+    String after(Consumer<Face> call) {
+        Guard g = x.copy();
+        call.accept(g);
+        String text = View.of(g).state() + View.of(g).messages();
+        g.forge(2, 0);
+        text += View.of(g).messages();
+        pass(g, 12);
+        text += View.of(g).state() + View.of(g).messages();
+        for (int h = 0; h < 4; h++) {
+            g.start(h, true);
         }
-        return text.toString();
+        pass(g, 24);
+        text += View.of(g).state();
+        for (int n = 0; n < 9; n++) {
+            g.tick();
+        }
+        pass(g, 24);
+        return text + View.of(g).state() + View.of(g).messages();
+    }
+
+    private static void pass(Guard g, int n) {
+        for (int i = 0; i < n; i++) {
+            g.pass(0, 0);
+        }
+    }
+
+    /** The call is refused: all is as if it had not been made. */
+    void unchanged(String what, Consumer<Face> call) {
+        Check.same(what + " changes nothing", after(call), after(f -> { }));
+    }
+
+    /** A row that is delivered does nothing, as if it was lost; whether it is counted is not looked at. */
+    void idle(String what, int way, int place, int... row) {
+        forge(way, place, row);
+        int k = waiting() - 1;
+        Check.same(what + " does nothing", after(f -> f.pass(k, 0)), after(f -> f.pass(k, 1)));
+        x.pass(k, 0);
     }
 }

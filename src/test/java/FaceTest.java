@@ -4,16 +4,19 @@ import java.lang.reflect.Method;
 import java.lang.reflect.Modifier;
 import java.util.TreeSet;
 
-/** The public face, promise 1 (a new object), and the wrong inputs of the calls that only answer (13 to 20). */
+/** The public face, promise 1 (a new object), and the calls that only answer: promises 15 to 18 and 20. */
 public final class FaceTest {
     public static void main(String[] args) {
         face();
         newObject();
         noSuch();
+        told();
+        wrongs();
         Check.end();
     }
 
     private static void face() {
+        Check.says("The public face");
         TreeSet<String> got = new TreeSet<>();
         for (Method m : PortGuard.class.getDeclaredMethods()) {
             if (!Modifier.isPrivate(m.getModifiers())) {
@@ -41,7 +44,13 @@ public final class FaceTest {
     }
 
     private static void newObject() {
-        PortGuard x = new PortGuard(Integer.MIN_VALUE);
+        Check.says("No users, hosts without user, no links, nothing waiting");
+        for (int shared : new int[] {0, 1, -1, Integer.MIN_VALUE, Integer.MAX_VALUE}) {
+            newObject(new Guard(shared));
+        }
+    }
+
+    private static void newObject(Guard x) {
         int[] port = {0, 0, 0, 0, 0, -1, 0, -1, -1, 0, 0, 0};
         int[] station = {0, 0, -1, -1, 0};
         int[] server = {1, 0, 0, 0};
@@ -71,37 +80,82 @@ public final class FaceTest {
         Check.due("new waiting", x.waiting(), 0);
         Check.due("new favourite", x.favourite(), 0);
         Check.due("new message", x.message(0, 0), -1);
-        Check.no("new forge", x.forge(0, 0));
+        Check.no("no draft", x.forge(0, 0));
         Check.no("new pass", x.pass(0, 0));
         Check.due("new tick", x.tick(), 0);
         Check.due("no link, no clock", x.port(0, 4), 0);
     }
 
+    /** What a call answers in a busy state, for what is told and for what is not. */
+    private static void told(String call, int from, int to, int none, java.util.function.IntUnaryOperator of) {
+        for (int i = from; i <= to; i++) {
+            Check.yes(call + " " + i + " is told", of.applyAsInt(i) > none);
+        }
+        Check.due(call + " " + (from - 1), of.applyAsInt(from - 1), none);
+        Check.due(call + " " + (to + 1), of.applyAsInt(to + 1), none);
+        for (int far : Bench.FAR) {
+            Check.due(call + " " + far, of.applyAsInt(far), none);
+        }
+    }
+
     private static void noSuch() {
-        Bench b = new Bench(3);
-        b.open(0, 1);
-        b.x.start(0, true);
-        int[] outside = {-1, 4, 12, Integer.MIN_VALUE, Integer.MAX_VALUE};
-        for (int i : outside) {
-            Check.due("port of none", b.x.port(i, 0), -2);
-            Check.due("station of none", b.x.station(i, 0), -2);
-            Check.due("server of none", b.x.server(i, 0), -2);
-            Check.due("wrong of none", b.x.wrong(i), -1);
-            Check.due("message of none", b.x.message(i, 0), -1);
-            Check.due("learned of none", b.x.learned(i), -1);
+        Bench b = Bench.busy();
+        b.x.data(0, 0, 8);
+        Check.says("port: -2 if there is no port p or no such what");
+        told("what", 0, 11, -2, what -> b.x.port(0, what));
+        told("p", 0, 3, -2, p -> b.x.port(p, 0));
+        Check.says("station: -2 if there is no host h or no such what");
+        told("what", 0, 4, -2, what -> b.x.station(0, what));
+        told("h", 0, 3, -2, h -> b.x.station(h, 0));
+        Check.says("server: -2 if there is no server s or no such what");
+        told("what", 0, 3, -2, what -> b.x.server(0, what));
+        told("s", 0, 1, -2, s -> b.x.server(s, 0));
+        Check.says("wrong: -1 for another who");
+        told("who", 0, 2, -1, who -> b.x.wrong(who));
+    }
+
+    private static void told() {
+        Bench b = Bench.busy();
+        Check.says("Of port p: what 0 STATE, 1 authorised ... 11 the NEXT id");
+        Check.bytes("an OPEN port", b.view().port(0), 3, 1, 0, 0, 2, -1, 0, 1, 0, 1, 1, 2);
+        Check.bytes("a WORKING port with a query", b.view().port(1), 2, 0, 0, 0, 2, 0, 1, 5, 2, 0, 0, 2);
+        Check.bytes("a HELD port", b.view().port(2), 4, 0, 0, 0, 2, -1, 0, 1, 1, 0, 0, 2);
+        Check.bytes("a port that asks", b.view().port(3), 1, 0, 1, 0, 2, -1, 0, -1, -1, 0, 0, 1);
+        Check.says("Of host h: what 0 RESULT, 1 proof, 2 the id of LATEST, 3 its user, 4 how many randoms it made");
+        Check.bytes("one that began anew", b.view().station(0), 0, 0, -1, 1, 0);
+        Check.bytes("one amid a proof", b.view().station(1), 0, 0, 1, 5, 1);
+        Check.bytes("one that failed", b.view().station(2), 2, 0, 1, 1, 0);
+        Check.says("Of server s: what 0 whether it is up, 1 how many sessions it has, 2 how many began, 3 how many randoms");
+        Check.bytes("server 0", b.view().server(0), 1, 1, 3, 3);
+        Check.bytes("server 1", b.view().server(1), 1, 0, 0, 0);
+    }
+
+    private static void wrongs() {
+        Check.says("who 0 to the switch, 1 to hosts with a user, 2 to servers that were up");
+        Bench b = new Bench(5);
+        for (int p = 0; p < 4; p++) {
+            b.x.link(p, true);
+            b.bring(1, p, 9);
+            Check.due("to a host without user", b.x.wrong(1), p);
+            b.x.host(p, p, 0, 0);
+            b.bring(1, p, 9);
+            Check.due("to a host with a user", b.x.wrong(1), p + 1);
+            b.bring(0, p, 9);
+            Check.due("a frame to the switch", b.x.wrong(0), p + 1);
         }
-        for (int what : new int[] {-1, 12, Integer.MIN_VALUE, Integer.MAX_VALUE}) {
-            Check.due("port what", b.x.port(0, what), -2);
-            Check.due("station what", b.x.station(0, what), -2);
-            Check.due("server what", b.x.server(0, what), -2);
-            Check.due("message what", b.x.message(0, what), -1);
+        for (int s = 0; s < 2; s++) {
+            b.bring(3, s, 9);
+            Check.due("a datagram to the switch", b.x.wrong(0), 5 + s);
+            b.bring(2, s, 9);
+            Check.due("to a server that is up", b.x.wrong(2), s + 1);
+            b.x.power(s, false);
+            b.bring(2, s, 9);
+            Check.due("to one that is down", b.x.wrong(2), s + 1);
         }
-        Check.due("station what 5", b.x.station(0, 5), -2);
-        Check.due("server what 4", b.x.server(0, 4), -2);
-        Check.due("server 2", b.x.server(2, 0), -2);
-        Check.due("wrong 3", b.x.wrong(3), -1);
-        Check.due("message byte 0", b.x.message(0, 3), 1);
-        Check.due("message byte 1", b.x.message(0, 4), -1);
-        Check.due("learned 8", b.x.learned(8), -1);
+        for (int h = 0; h < 4; h++) {
+            b.x.host(h, -1, 0, 0);
+        }
+        b.x.power(0, true);
+        Check.due("what was counted stays", b.x.wrong(0) * 100 + b.x.wrong(1) * 10 + b.x.wrong(2), 642);
     }
 }

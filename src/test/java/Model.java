@@ -3,7 +3,7 @@ import java.util.Arrays;
 import java.util.List;
 
 /** The document written a second time, as plainly as it goes: rows are never changed, only replaced. */
-final class Model {
+final class Model implements Face {
     record Message(int way, int place, int[] row) {
     }
 
@@ -442,7 +442,8 @@ final class Model {
 
     // the face
 
-    boolean user(int u, int k, int m) {
+    @Override
+    public boolean user(int u, int k, int m) {
         if (u < 0 || u > 7 || m < 1 || m > 3) {
             return false;
         }
@@ -458,7 +459,8 @@ final class Model {
         host.result = 0;
     }
 
-    boolean host(int h, int u, int k, int m) {
+    @Override
+    public boolean host(int h, int u, int k, int m) {
         if (h < 0 || h > 3 || u < -1 || u > 7 || m < 0 || m > 3) {
             return false;
         }
@@ -469,7 +471,8 @@ final class Model {
         return true;
     }
 
-    boolean start(int h, boolean on) {
+    @Override
+    public boolean start(int h, boolean on) {
         if (h < 0 || h > 3 || hosts[h].user < 0) {
             return false;
         }
@@ -478,7 +481,8 @@ final class Model {
         return true;
     }
 
-    boolean link(int p, boolean on) {
+    @Override
+    public boolean link(int p, boolean on) {
         if (p < 0 || p > 3 || gates[p].link == on) {
             return false;
         }
@@ -494,7 +498,8 @@ final class Model {
         return true;
     }
 
-    boolean power(int s, boolean on) {
+    @Override
+    public boolean power(int s, boolean on) {
         if (s < 0 || s > 1 || servers[s].up == on) {
             return false;
         }
@@ -506,7 +511,8 @@ final class Model {
         return true;
     }
 
-    boolean pass(int k, int how) {
+    @Override
+    public boolean pass(int k, int how) {
         if (k < 0 || k >= waiting.size() || how < 0 || how > 2) {
             return false;
         }
@@ -525,7 +531,8 @@ final class Model {
         return true;
     }
 
-    boolean alter(int k, int i, int x) {
+    @Override
+    public boolean alter(int k, int i, int x) {
         if (k < 0 || k >= waiting.size() || i < 0 || i >= waiting.get(k).row().length) {
             return false;
         }
@@ -534,7 +541,8 @@ final class Model {
         return true;
     }
 
-    boolean draft(long v, int n) {
+    @Override
+    public boolean draft(long v, int n) {
         if (n < 1 || n > 8 || draft.length + n > 48) {
             return false;
         }
@@ -544,7 +552,8 @@ final class Model {
         return true;
     }
 
-    boolean forge(int way, int place) {
+    @Override
+    public boolean forge(int way, int place) {
         if (way < 0 || way > 3 || place < 0 || place > (way < 2 ? 3 : 1) || draft.length == 0) {
             return false;
         }
@@ -553,7 +562,8 @@ final class Model {
         return true;
     }
 
-    int tick() {
+    @Override
+    public int tick() {
         for (int p = 0; p < 4; p++) {
             if (gates[p].link) {
                 tick(p);
@@ -562,7 +572,8 @@ final class Model {
         return waiting.size();
     }
 
-    int data(int p, int from, int to) {
+    @Override
+    public int data(int p, int from, int to) {
         if (p < 0 || p > 3 || from < 0 || from > 7 || to < 0 || to > 8) {
             return -1;
         }
@@ -581,42 +592,65 @@ final class Model {
         return sum;
     }
 
-    /** In the form of Bench.state. */
-    String state() {
-        StringBuilder text = new StringBuilder();
-        for (int p = 0; p < 4; p++) {
-            Gate g = gates[p];
-            Station h = hosts[p];
-            boolean query = g.query != null;
-            text.append("\nport ").append(p).append(':');
-            add(text, g.state, g.authorised ? 1 : 0, g.awaited ? 1 : 0, g.again, g.clock, query ? g.server : -1,
-                query ? g.tries : 0, g.user, g.token, g.visits, g.traffic, g.next);
-            text.append(" host:");
-            add(text, h.result, h.proof ? 1 : 0, h.latest == null ? -1 : h.latest[1], h.user, h.randoms);
-        }
-        for (int s = 0; s < 2; s++) {
-            text.append("\nserver ").append(s).append(':');
-            add(text, servers[s].up ? 1 : 0, servers[s].visits.size(), servers[s].began, servers[s].randoms);
-        }
-        text.append("\nlearned:");
-        add(text, learned);
-        text.append("\nwrong:");
-        add(text, wrong);
-        return text.append(" favourite: ").append(favourite).append(" waiting: ").append(waiting.size()).toString();
+    @Override
+    public int waiting() {
+        return waiting.size();
     }
 
-    private static void add(StringBuilder text, int... values) {
-        for (int v : values) {
-            text.append(' ').append(v);
+    @Override
+    public int message(int k, int what) {
+        if (k < 0 || k >= waiting.size() || what < 0) {
+            return -1;
         }
+        Message m = waiting.get(k);
+        int[] told = Wire.cat(Wire.row(m.way(), m.place(), m.row().length), m.row());
+        return what < told.length ? told[what] : -1;
     }
 
-    String messages() {
-        StringBuilder text = new StringBuilder();
-        for (Message m : waiting) {
-            text.append('\n').append(m.way()).append(' ').append(m.place()).append(' ');
-            text.append(Arrays.toString(m.row()));
+    private static int told(int what, int... told) {
+        return what >= 0 && what < told.length ? told[what] : -2;
+    }
+
+    @Override
+    public int port(int p, int what) {
+        if (p < 0 || p > 3) {
+            return -2;
         }
-        return text.toString();
+        Gate g = gates[p];
+        boolean query = g.query != null;
+        return told(what, g.state, g.authorised ? 1 : 0, g.awaited ? 1 : 0, g.again, g.clock, query ? g.server : -1,
+            query ? g.tries : 0, g.user, g.token, g.visits, g.traffic, g.next);
+    }
+
+    @Override
+    public int station(int h, int what) {
+        if (h < 0 || h > 3) {
+            return -2;
+        }
+        Station s = hosts[h];
+        return told(what, s.result, s.proof ? 1 : 0, s.latest == null ? -1 : s.latest[1], s.user, s.randoms);
+    }
+
+    @Override
+    public int server(int s, int what) {
+        if (s < 0 || s > 1) {
+            return -2;
+        }
+        return told(what, servers[s].up ? 1 : 0, servers[s].visits.size(), servers[s].began, servers[s].randoms);
+    }
+
+    @Override
+    public int wrong(int who) {
+        return who >= 0 && who < 3 ? wrong[who] : -1;
+    }
+
+    @Override
+    public int learned(int address) {
+        return address >= 0 && address < 8 ? learned[address] : -1;
+    }
+
+    @Override
+    public int favourite() {
+        return favourite;
     }
 }

@@ -1,125 +1,193 @@
 import java.util.ArrayList;
+import java.util.Arrays;
 import java.util.List;
 import java.util.Random;
+import java.util.function.ToIntFunction;
 
-/** Long mixed runs, the same ones each time, in which PortGuard and Model must agree after every call. */
+/**
+ * Mixed runs of 512 calls, the same ones each time, in which PortGuard and Model must answer alike. Some calls only
+ * ask, and at the end of a run all is asked.
+ */
 public final class ModelTest {
-    private static final int RUNS = 400;
-    private static final int STEPS = 500;
+    private static final int RUNS = 2500;
+    private static final int STATES = 5;
+    private static final int[] KEYS = {0, 77, -5, 1 << 31};
 
     private final Random random;
     private final int key;
-    private final Bench bench;
+    private final Guard guard;
     private final Model model;
     private final List<String> calls = new ArrayList<>();
-    private final int[] seen = new int[5];
+    private final int[] seen = new int[STATES];
+    private boolean same = true;
 
     private ModelTest(int seed) {
         random = new Random(seed);
         key = random.nextInt();
-        bench = new Bench(key);
+        guard = new Guard(key);
         model = new Model(key);
     }
 
     public static void main(String[] args) {
-        int[] seen = new int[5];
-        for (int seed = 0; seed < RUNS; seed++) {
+        Check.says("all promises");
+        int[] seen = new int[STATES];
+        boolean good = true;
+        for (int seed = 0; seed < RUNS && good; seed++) {
             ModelTest run = new ModelTest(seed);
-            boolean good = run.go(seed);
-            Check.yes("run " + seed, good);
-            for (int state = 0; state < 5; state++) {
+            good = run.go();
+            Check.yes("run " + seed + ": " + (good ? "" : run.calls), good);
+            for (int state = 0; state < STATES; state++) {
                 seen[state] += run.seen[state];
             }
-            if (!good) {
-                break;
-            }
         }
-        for (int state = 0; state < 5; state++) {
+        for (int state = 0; state < STATES && good; state++) {
             Check.yes("the runs reach state " + state, seen[state] > RUNS);
         }
         Check.end();
     }
 
-    private boolean go(int seed) {
+    private boolean go() {
         for (int u = 0; u < 8; u++) {
             settleUser(u);
         }
         for (int p = 0; p < 4; p++) {
             settleHost(p);
-            call("link", p, 1);
+            link(p, true);
         }
         int haste = 1 + random.nextInt(30);
-        for (int step = 0; step < STEPS; step++) {
+        while (same && guard.calls() < Guard.PROMISED) {
             act(haste);
             for (int p = 0; p < 4; p++) {
                 seen[model.gates[p].state]++;
             }
-            boolean same = bench.state().equals(model.state()) && bench.messages().equals(model.messages());
-            if (!same || !calls.isEmpty() && calls.get(calls.size() - 1).endsWith("!")) {
-                report(seed);
-                return false;
-            }
         }
-        return true;
+        return same && View.of(guard).all().equals(View.of(model).all());
     }
 
-    private void report(int seed) {
-        System.out.println("run " + seed + " with key " + key + ": " + calls);
-        System.out.println("PortGuard:" + bench.state() + bench.messages());
-        System.out.println("Model:" + model.state() + model.messages());
+    /** Makes a call of both. */
+    private void both(String call, ToIntFunction<Face> of) {
+        if (!same || guard.calls() >= Guard.PROMISED) {
+            return;
+        }
+        int got = of.applyAsInt(guard);
+        int want = of.applyAsInt(model);
+        same = got == want;
+        calls.add(call + " = " + got + (same ? "" : ", due is " + want));
+    }
+
+    private static int number(boolean answer) {
+        return answer ? 1 : 0;
     }
 
     private void act(int haste) {
         int waiting = model.waiting.size();
         int dice = random.nextInt(100);
-        if (dice < 45 || waiting > 36 && dice < 80) {
-            call("pass", random.nextInt(3) > 0 ? 0 : random.nextInt(waiting + 1), waiting > 36 ? random.nextInt(2) : 0);
-        } else if (dice < 45 + haste) {
-            call("tick", 0, 0);
-        } else {
+        if (dice < 40 || waiting > 36 && dice < 75) {
+            pass(random.nextInt(3) > 0 ? 0 : random.nextInt(waiting + 1), waiting > 36 ? random.nextInt(2) : 0);
+        } else if (dice < 40 + haste) {
+            both("tick()", Face::tick);
+        } else if (dice < 82) {
             actRarely(random.nextInt(16), waiting);
+        } else {
+            look(random.nextInt(8), waiting);
         }
     }
 
     private void actRarely(int which, int waiting) {
         switch (which) {
-            case 0 -> call("pass", random.nextInt(waiting + 2) - 1, random.nextInt(5) - 1);
-            case 1 -> call("pass", random.nextInt(waiting + 1), 2);
+            case 0 -> pass(random.nextInt(waiting + 2) - 1, random.nextInt(5) - 1);
+            case 1 -> pass(random.nextInt(waiting + 1), 2);
             case 2 -> alter(waiting);
-            case 3 -> call("start", random.nextInt(6) - 1, random.nextInt(2));
-            case 4 -> call("link", random.nextInt(6) - 1, random.nextInt(3) > 0 ? 1 : 0);
-            case 5 -> call("power", random.nextInt(4) - 1, random.nextInt(3) > 0 ? 1 : 0);
+            case 3 -> start(random.nextInt(6) - 1, random.nextBoolean());
+            case 4 -> link(random.nextInt(6) - 1, random.nextInt(3) > 0);
+            case 5 -> power(random.nextInt(4) - 1, random.nextInt(3) > 0);
             case 6 -> settleUser(random.nextInt(10) - 1);
             case 7 -> settleHost(random.nextInt(6) - 1);
-            case 8 -> forge(random.nextInt(4), random.nextInt(4), junk());
+            case 8 -> forge(random.nextInt(6) - 1, random.nextInt(6) - 1, junk());
             case 9 -> forge(1, random.nextInt(4), Wire.frame(requestToHost()));
             case 10 -> forgeFromHost(random.nextInt(4));
             case 11 -> forgeToServer();
             case 12 -> forgeFromServer();
-            case 13 -> call("link", random.nextInt(4), 1);
-            default -> call("data", random.nextInt(4), random.nextInt(90));
+            case 13 -> link(random.nextInt(4), true);
+            default -> data(random.nextInt(6) - 1, random.nextInt(10) - 1, random.nextInt(11) - 1);
         }
     }
 
+    private void look(int which, int waiting) {
+        int a = random.nextInt(6) - 1;
+        int what = random.nextInt(14) - 1;
+        int k = random.nextInt(waiting + 2) - 1;
+        int of = random.nextInt(54) - 1;
+        switch (which) {
+            case 0 -> both("waiting()", Face::waiting);
+            case 1 -> both("port(" + a + ", " + what + ")", f -> f.port(a, what));
+            case 2 -> both("station(" + a + ", " + what + ")", f -> f.station(a, what));
+            case 3 -> both("server(" + a + ", " + what + ")", f -> f.server(a, what));
+            case 4 -> both("wrong(" + a + ")", f -> f.wrong(a));
+            case 5 -> both("learned(" + what + ")", f -> f.learned(what));
+            case 6 -> both("favourite()", Face::favourite);
+            default -> both("message(" + k + ", " + of + ")", f -> f.message(k, of));
+        }
+    }
+
+    private void pass(int k, int how) {
+        both("pass(" + k + ", " + how + ")", f -> number(f.pass(k, how)));
+    }
+
+    private void start(int h, boolean on) {
+        both("start(" + h + ", " + on + ")", f -> number(f.start(h, on)));
+    }
+
+    private void link(int p, boolean on) {
+        both("link(" + p + ", " + on + ")", f -> number(f.link(p, on)));
+    }
+
+    private void power(int s, boolean on) {
+        both("power(" + s + ", " + on + ")", f -> number(f.power(s, on)));
+    }
+
+    private void data(int p, int from, int to) {
+        both("data(" + p + ", " + from + ", " + to + ")", f -> f.data(p, from, to));
+    }
+
+    /** Most users and hosts have the same key, so that many proofs are right. */
+    private int someKey() {
+        return KEYS[random.nextInt(4) < 3 ? 0 : random.nextInt(4)];
+    }
+
     private void settleUser(int u) {
-        call("user", u, random.nextInt(20));
+        int userKey = someKey();
+        int methods = random.nextInt(5);
+        both("user(" + u + ", " + userKey + ", " + methods + ")", f -> number(f.user(u, userKey, methods)));
     }
 
     private void settleHost(int h) {
-        call("host", h, random.nextInt(200));
+        int u = random.nextInt(11) - 2;
+        int hostKey = someKey();
+        int methods = random.nextInt(6) - 1;
+        both("host(" + h + ", " + u + ", " + hostKey + ", " + methods + ")",
+            f -> number(f.host(h, u, hostKey, methods)));
     }
 
     private void alter(int waiting) {
         int k = random.nextInt(waiting + 1);
         int size = k < waiting ? model.waiting.get(k).row().length : 1;
-        call("alter", k, random.nextInt(size + 1) * 1000 + (random.nextInt(3) > 0 ? random.nextInt(8) : random.nextInt(600)));
+        int i = random.nextInt(size + 2) - 1;
+        int by = random.nextInt(3) > 0 ? random.nextInt(8) : random.nextInt(1200) - 600;
+        both("alter(" + k + ", " + i + ", " + by + ")", f -> number(f.alter(k, i, by)));
     }
 
     private void forge(int way, int place, int... row) {
-        for (int b : row) {
-            call("draft", b, 1);
+        for (int from = 0; from < row.length; from += 8) {
+            int n = Math.min(8, row.length - from);
+            long v = 0;
+            for (int i = 0; i < n; i++) {
+                v |= (long) row[from + i] << 8 * i;
+            }
+            long bytes = v;
+            both("draft(" + bytes + "L, " + n + ")", f -> number(f.draft(bytes, n)));
         }
-        call("forge", way, way < 2 ? place : place % 2);
+        both("forge(" + way + ", " + place + ")", f -> number(f.forge(way, place)));
     }
 
     private int[] junk() {
@@ -130,7 +198,7 @@ public final class ModelTest {
         return row;
     }
 
-    private int[] data(int most) {
+    private int[] content(int most) {
         int[] row = new int[random.nextInt(most + 1)];
         for (int i = 0; i < row.length; i++) {
             row[i] = random.nextInt(random.nextBoolean() ? 6 : 256);
@@ -144,14 +212,14 @@ public final class ModelTest {
 
     private int[] requestToHost() {
         int[] sizes = {4, 5, 0, 1};
-        int[] content = java.util.Arrays.copyOf(data(16), sizes[random.nextInt(4)]);
+        int[] content = Arrays.copyOf(content(16), sizes[random.nextInt(4)]);
         return Wire.packet(1 + random.nextInt(2), random.nextInt(6), Wire.cat(Wire.row(type()), content));
     }
 
     private void forgeFromHost(int p) {
         int[] last = model.gates[p].last;
         int id = last == null || random.nextInt(8) == 0 ? random.nextInt(256) : last[1];
-        int[] content = random.nextBoolean() ? Wire.row(1, random.nextInt(9)) : Wire.cat(Wire.row(type()), data(16));
+        int[] content = random.nextBoolean() ? Wire.row(1, random.nextInt(9)) : Wire.cat(Wire.row(type()), content(16));
         forge(0, p, Wire.frame(Wire.packet(2, id, content)));
     }
 
@@ -160,7 +228,7 @@ public final class ModelTest {
         List<int[]> attributes = new ArrayList<>();
         int size = 1 + random.nextInt(8);
         for (int from = 0; from < packet.length; from += size) {
-            int[] value = java.util.Arrays.copyOfRange(packet, from, Math.min(from + size, packet.length));
+            int[] value = Arrays.copyOfRange(packet, from, Math.min(from + size, packet.length));
             attributes.add(Wire.cat(Wire.row(79, value.length + 2), value));
         }
         int[][] more = {Wire.name(name), Wire.token(token), Wire.SEAL};
@@ -188,7 +256,7 @@ public final class ModelTest {
         int[] content = switch (random.nextInt(4)) {
             case 0 -> Wire.row(1, random.nextInt(9));
             case 1 -> Wire.row(3, random.nextBoolean() ? 4 : 51);
-            default -> Wire.cat(Wire.row(type()), data(9));
+            default -> Wire.cat(Wire.row(type()), content(9));
         };
         int[] packet = random.nextInt(6) == 0 ? Wire.packet(3 + random.nextInt(2), id) : Wire.packet(2, id, content);
         int name = random.nextInt(8) - 1;
@@ -199,7 +267,7 @@ public final class ModelTest {
         for (Model.Gate g : model.gates) {
             if (g.query != null) {
                 int id = random.nextInt(256);
-                int[] request = Wire.packet(1, id, Wire.cat(Wire.row(type()), data(16)));
+                int[] request = Wire.packet(1, id, Wire.cat(Wire.row(type()), content(16)));
                 int code = new int[] {11, 2, 3}[random.nextInt(3)];
                 int[] packet = code == 11 ? request : Wire.packet(random.nextInt(9) > 0 ? code + 1 : 3, id);
                 int token = random.nextInt(3) == 0 ? -1 : random.nextInt(65536);
@@ -208,29 +276,6 @@ public final class ModelTest {
                 return;
             }
         }
-        call("tick", 0, 0);
-    }
-
-    /** Makes one call of both; what has more arguments than two has them packed in the second. */
-    private void call(String name, int a, int c) {
-        PortGuard x = bench.x;
-        boolean on = c == 1;
-        int[] keys = {0, 77, -5, 1 << 31};
-        boolean same = switch (name) {
-            case "pass" -> x.pass(a, c) == model.pass(a, c);
-            case "tick" -> x.tick() == model.tick();
-            case "start" -> x.start(a, on) == model.start(a, on);
-            case "link" -> x.link(a, on) == model.link(a, on);
-            case "power" -> x.power(a, on) == model.power(a, on);
-            case "draft" -> x.draft(a, c) == model.draft(a, c);
-            case "forge" -> x.forge(a, c) == model.forge(a, c);
-            case "alter" -> x.alter(a, c / 1000, c % 1000) == model.alter(a, c / 1000, c % 1000);
-            case "data" -> x.data(a, c / 10, c % 10) == model.data(a, c / 10, c % 10);
-            case "user" -> x.user(a, keys[c % 4 / 3], c / 4) == model.user(a, keys[c % 4 / 3], c / 4);
-            case "host" -> x.host(a, c / 20 - 1, keys[c % 4 / 3], c % 20 / 4)
-                == model.host(a, c / 20 - 1, keys[c % 4 / 3], c % 20 / 4);
-            default -> false;
-        };
-        calls.add(name + " " + a + " " + c + (same ? "" : "!"));
+        both("tick()", Face::tick);
     }
 }
