@@ -417,8 +417,8 @@ public final class PortGuard {
             return size - HEAD - 1;
         }
 
-        int dataAt(int i) {
-            return at(HEAD + 1 + i);
+        int firstData() {
+            return at(HEAD + 1);
         }
 
         int dataIntAt(int i) {
@@ -471,7 +471,7 @@ public final class PortGuard {
 
         final Row row = new Row();
         final Packet packet = new Packet();
-        int name;
+        boolean named;
         int token;
         int sealAt;
         int authenticator;
@@ -489,7 +489,7 @@ public final class PortGuard {
         boolean read(Row source) {
             row.copy(source);
             packet.clear();
-            name = NONE;
+            named = false;
             token = NONE;
             sealAt = NONE;
             if (row.size < HEAD || row.at(2) != row.size || !readAttributes()) {
@@ -515,10 +515,10 @@ public final class PortGuard {
         private boolean readAttribute(int at, int size) {
             switch (row.at(at)) {
                 case KIND_NAME:
-                    if (size != 3 || name != NONE) {
+                    if (size != 3 || named) {
                         return false;
                     }
-                    name = row.at(at + 2);
+                    named = true;
                     return true;
                 case KIND_TOKEN:
                     if (size != 4 || token != NONE) {
@@ -798,7 +798,7 @@ public final class PortGuard {
         }
 
         private boolean answerRandom() {
-            if (packet.dataSize() != 5 || packet.dataAt(0) != 1) {
+            if (packet.dataSize() != 5 || packet.firstData() != 1) {
                 return false;
             }
             proof = false;
@@ -815,7 +815,7 @@ public final class PortGuard {
         }
 
         private boolean answerProof() {
-            if (packet.dataSize() != 5 || packet.dataAt(0) != 3 || !hasTheirs
+            if (packet.dataSize() != 5 || packet.firstData() != 3 || !hasTheirs
                     || packet.dataIntAt(1) != Digest.macOfProof(key, 3, ours, theirs)) {
                 return false;
             }
@@ -920,7 +920,7 @@ public final class PortGuard {
         }
 
         private boolean accepts(Row row) {
-            return request.read(row) && request.code() == ASK && request.name != NONE
+            return request.read(row) && request.code() == ASK && request.named
                 && request.isSealed(key, request.authenticator);
         }
 
@@ -968,7 +968,7 @@ public final class PortGuard {
         }
 
         private boolean openSession(Packet packet) {
-            int user = packet.dataAt(0);
+            int user = packet.firstData();
             if (packet.dataSize() != 1 || !users.knows(user)) {
                 return false;
             }
@@ -1059,7 +1059,7 @@ public final class PortGuard {
                 return 0;
             }
             int open = users.methods[session.user] & ~session.begun;
-            switch (packet.dataAt(0)) {
+            switch (packet.firstData()) {
                 case TYPE_CHALLENGE:
                     return open & CHALLENGE;
                 case TYPE_MUTUAL:
@@ -1081,7 +1081,7 @@ public final class PortGuard {
         private boolean takeFirstProof(Session session, Packet packet) {
             int userKey = users.keys[session.user];
             int theirs = packet.dataIntAt(1);
-            if (packet.dataSize() != 9 || packet.dataAt(0) != 2
+            if (packet.dataSize() != 9 || packet.firstData() != 2
                     || packet.dataIntAt(5) != Digest.macOfProof(userKey, 2, session.random, theirs)) {
                 return false;
             }
@@ -1096,7 +1096,7 @@ public final class PortGuard {
 
         private boolean takeLastProof(Session session, Packet packet) {
             int due = Digest.macOfProof(users.keys[session.user], 4, session.random, session.theirs);
-            if (packet.dataSize() != 5 || packet.dataAt(0) != 4 || packet.dataIntAt(1) != due) {
+            if (packet.dataSize() != 5 || packet.firstData() != 4 || packet.dataIntAt(1) != due) {
                 return false;
             }
             finish(ACCEPT, SUCCESS, session);
@@ -1302,7 +1302,7 @@ public final class PortGuard {
                 if (packet.type() != TYPE_IDENTITY || packet.dataSize() != 1) {
                     return;
                 }
-                port.user = packet.dataAt(0);
+                port.user = packet.firstData();
                 port.state = Port.WORKING;
             }
             port.awaited = false;

@@ -336,6 +336,10 @@ public final class HostTest {
         b.bring(1, 2, Wire.frame(Wire.packet(4, 99)));
         Check.bytes("with proof", b.view().station(2), 2, 0, 3, 6, 0);
         nothing("SUCCESS then", b, Wire.frame(Wire.packet(3, 99)));
+        b = with(2);
+        b.bring(1, 2, request(10, 51, 1, 0, 0, 0, 9));
+        b.bring(1, 2, Wire.frame(Wire.packet(4, 10)));
+        sends("THEIRS stays", b, request(11, proof(3, KEY, ours(0), 9)), response(11, proof(4, KEY, 9, ours(0))));
     }
 
     private static void allElse() {

@@ -34,20 +34,18 @@ public final class MessagesTest {
         for (int how = 0; how <= 2; how++) {
             int by = how;
             for (int k : new int[] {-1, 3, 39, 40}) {
-                Check.no("k " + k, b.x.pass(k, how));
-                b.unchanged("k " + k, f -> f.pass(k, by));
+                b.refused("k " + k, f -> f.pass(k, by));
             }
             for (int far : Bench.FAR) {
-                Check.no("k " + far, b.x.pass(far, how));
+                b.refused("k " + far, f -> f.pass(far, by));
             }
-            Check.no("of none", new Bench(1).x.pass(0, how));
+            new Bench(1).refused("of none", f -> f.pass(0, by));
         }
         for (int how : new int[] {-1, 3}) {
-            Check.no("how " + how, b.x.pass(0, how));
-            b.unchanged("how " + how, f -> f.pass(0, how));
+            b.refused("how " + how, f -> f.pass(0, how));
         }
         for (int far : Bench.FAR) {
-            Check.no("how " + far, b.x.pass(0, far));
+            b.refused("how " + far, f -> f.pass(0, far));
         }
         Check.yes("the last one", b.x.pass(2, 1));
         Check.no("which is there no more", b.x.pass(2, 1));
@@ -124,24 +122,21 @@ public final class MessagesTest {
         Check.says("False, refused, if there is no such message or byte.");
         Bench b = three();
         for (int k : new int[] {-1, 3, 40}) {
-            Check.no("k " + k, b.x.alter(k, 0, 1));
-            b.unchanged("k " + k, f -> f.alter(k, 0, 1));
+            b.refused("k " + k, f -> f.alter(k, 0, 1));
         }
         for (int k = 0; k < 3; k++) {
             int at = k;
-            Check.no("byte -1", b.x.alter(k, -1, 1));
-            Check.no("byte " + (k + 1), b.x.alter(k, k + 1, 1));
-            Check.no("byte 48", b.x.alter(k, 48, 1));
-            b.unchanged("byte -1", f -> f.alter(at, -1, 1));
-            b.unchanged("byte " + (k + 1), f -> f.alter(at, at + 1, 1));
+            b.refused("byte -1", f -> f.alter(at, -1, 1));
+            b.refused("byte " + (k + 1), f -> f.alter(at, at + 1, 1));
+            b.refused("byte 48", f -> f.alter(at, 48, 1));
             Check.yes("byte " + k, b.x.alter(k, k, 0));
             Check.yes("byte 0", b.x.alter(k, 0, 0));
         }
         for (int far : Bench.FAR) {
-            Check.no("k " + far, b.x.alter(far, 0, 1));
-            Check.no("byte " + far, b.x.alter(0, far, 1));
+            b.refused("k " + far, f -> f.alter(far, 0, 1));
+            b.refused("byte " + far, f -> f.alter(0, far, 1));
         }
-        Check.no("of none", new Bench(1).x.alter(0, 0, 1));
+        new Bench(1).refused("of none", f -> f.alter(0, 0, 1));
     }
 
     private static void alterXors() {
@@ -165,11 +160,10 @@ public final class MessagesTest {
         Bench b = new Bench(1);
         b.draft(5, 6);
         for (int n : new int[] {-1, 0, 9}) {
-            Check.no("n " + n, b.x.draft(1, n));
-            b.unchanged("n " + n, f -> f.draft(1, n));
+            b.refused("n " + n, f -> f.draft(1, n));
         }
         for (int far : Bench.FAR) {
-            Check.no("n " + far, b.x.draft(1, far));
+            b.refused("n " + far, f -> f.draft(1, far));
         }
         for (int n = 1; n <= 8; n++) {
             Check.yes("n " + n, b.x.draft(1, n));
@@ -190,13 +184,11 @@ public final class MessagesTest {
             }
             int more = n;
             if (n < 8) {
-                Check.no("49", b.x.draft(6, n + 1));
-                b.unchanged("49", f -> f.draft(6, more + 1));
+                b.refused("49", f -> f.draft(6, more + 1));
             }
             Check.yes("48", b.x.draft(7, n));
-            Check.no("49", b.x.draft(8, 1));
-            Check.no("56", b.x.draft(8, 8));
-            b.unchanged("49", f -> f.draft(8, 1));
+            b.refused("49", f -> f.draft(8, 1));
+            b.refused("56", f -> f.draft(8, 8));
             Check.yes("it can be sent", b.x.forge(3, 1));
             Check.due("48 bytes", b.x.message(0, 2), 48);
             Check.due("where the last began", b.x.message(0, 3 + 48 - n), 7);
@@ -228,29 +220,26 @@ public final class MessagesTest {
         Bench b = three();
         b.draft(7, 8, 9);
         for (int way : new int[] {-1, 4}) {
-            Check.no("way " + way, b.x.forge(way, 0));
-            b.unchanged("way " + way, f -> f.forge(way, 0));
+            b.refused("way " + way, f -> f.forge(way, 0));
         }
         for (int way = 0; way < 4; way++) {
             int by = way;
             int places = way < 2 ? 4 : 2;
-            Check.no("place -1", b.x.forge(way, -1));
-            Check.no("place " + places, b.x.forge(way, places));
-            b.unchanged("place -1", f -> f.forge(by, -1));
-            b.unchanged("place " + places, f -> f.forge(by, places));
+            b.refused("place -1", f -> f.forge(by, -1));
+            b.refused("place " + places, f -> f.forge(by, places));
+            for (int far : Bench.FAR) {
+                b.refused("place " + far, f -> f.forge(by, far));
+            }
         }
         for (int far : Bench.FAR) {
-            Check.no("way " + far, b.x.forge(far, 0));
-            for (int way = 0; way < 4; way++) {
-                Check.no("place " + far, b.x.forge(way, far));
-            }
+            b.refused("way " + far, f -> f.forge(far, 0));
         }
         Check.yes("the draft stayed", b.x.forge(3, 1));
         Check.bytes("the draft stayed", b.bytes(3), 7, 8, 9);
         for (int way = 0; way < 4; way++) {
-            Check.no("no bytes", b.x.forge(way, 0));
+            int by = way;
+            b.refused("no bytes", f -> f.forge(by, 0));
         }
-        b.unchanged("no bytes", f -> f.forge(0, 0));
     }
 
     private static void forgeSends() {

@@ -28,16 +28,14 @@ public final class SettingsTest {
         Check.says("False, refused, if u is not 0 .. 7 or methods not 1 .. 3.");
         Bench b = Bench.busy();
         for (int u : new int[] {-1, 8}) {
-            Check.no("u " + u, b.x.user(u, 77, 1));
-            b.unchanged("u " + u, f -> f.user(u, 77, 1));
+            b.refused("u " + u, f -> f.user(u, 77, 1));
         }
         for (int methods : new int[] {-1, 0, 4}) {
-            Check.no("methods " + methods, b.x.user(5, 77, methods));
-            b.unchanged("methods " + methods, f -> f.user(5, 77, methods));
+            b.refused("methods " + methods, f -> f.user(5, 77, methods));
         }
         for (int far : Bench.FAR) {
-            Check.no("u " + far, b.x.user(far, 77, 1));
-            Check.no("methods " + far, b.x.user(0, 77, far));
+            b.refused("u " + far, f -> f.user(far, 77, 1));
+            b.refused("methods " + far, f -> f.user(5, 77, far));
         }
         for (int u = 0; u < 8; u++) {
             for (int methods = 1; methods <= 3; methods++) {
@@ -95,25 +93,20 @@ public final class SettingsTest {
         Check.says("False, refused, if there is no host h, u is not -1 .. 7, or methods not 0 .. 3.");
         Bench b = Bench.busy();
         for (int h : new int[] {-1, 4}) {
-            Check.no("h " + h, b.x.host(h, 5, 77, 1));
-            b.unchanged("h " + h, f -> f.host(h, 5, 77, 1));
+            b.refused("h " + h, f -> f.host(h, 5, 77, 1));
         }
         for (int h = 0; h < 4; h++) {
             int at = h;
-            Check.no("u -2", b.x.host(h, -2, 77, 1));
-            Check.no("u 8", b.x.host(h, 8, 77, 1));
-            Check.no("methods -1", b.x.host(h, 5, 77, -1));
-            Check.no("methods 4", b.x.host(h, 5, 77, 4));
-            Check.no("no user, but methods 4", b.x.host(h, -1, 77, 4));
-            b.unchanged("u -2", f -> f.host(at, -2, 77, 1));
-            b.unchanged("u 8", f -> f.host(at, 8, 77, 1));
-            b.unchanged("methods -1", f -> f.host(at, 5, 77, -1));
-            b.unchanged("methods 4", f -> f.host(at, 5, 77, 4));
+            b.refused("u -2", f -> f.host(at, -2, 77, 1));
+            b.refused("u 8", f -> f.host(at, 8, 77, 1));
+            b.refused("methods -1", f -> f.host(at, 5, 77, -1));
+            b.refused("methods 4", f -> f.host(at, 5, 77, 4));
+            b.refused("no user, but methods 4", f -> f.host(at, -1, 77, 4));
         }
         for (int far : Bench.FAR) {
-            Check.no("h " + far, b.x.host(far, 5, 77, 1));
-            Check.no("u " + far, b.x.host(0, far, 77, 1));
-            Check.no("methods " + far, b.x.host(0, 5, 77, far));
+            b.refused("h " + far, f -> f.host(far, 5, 77, 1));
+            b.refused("u " + far, f -> f.host(1, far, 77, 1));
+            b.refused("methods " + far, f -> f.host(1, 5, 77, far));
         }
     }
 
@@ -190,11 +183,10 @@ public final class SettingsTest {
         b.x.host(3, -1, 5, 1);
         for (boolean on : new boolean[] {true, false}) {
             for (int h : new int[] {-1, 3, 4}) {
-                Check.no("h " + h, b.x.start(h, on));
-                b.unchanged("h " + h, f -> f.start(h, on));
+                b.refused("h " + h, f -> f.start(h, on));
             }
             for (int far : Bench.FAR) {
-                Check.no("h " + far, b.x.start(far, on));
+                b.refused("h " + far, f -> f.start(far, on));
             }
         }
         b.x.host(3, 0, 5, 1);
@@ -232,23 +224,20 @@ public final class SettingsTest {
         Bench b = Bench.busy();
         for (int p : new int[] {-1, 4}) {
             for (boolean on : new boolean[] {true, false}) {
-                Check.no("p " + p, b.x.link(p, on));
-                b.unchanged("p " + p, f -> f.link(p, on));
+                b.refused("p " + p, f -> f.link(p, on));
             }
         }
         for (int far : Bench.FAR) {
-            Check.no("p " + far, b.x.link(far, true));
-            Check.no("p " + far, b.x.link(far, false));
+            b.refused("p " + far, f -> f.link(far, true));
+            b.refused("p " + far, f -> f.link(far, false));
         }
         for (int p = 0; p < 4; p++) {
             int at = p;
-            Check.no("on already", b.x.link(p, true));
-            b.unchanged("on already", f -> f.link(at, true));
+            b.refused("on already", f -> f.link(at, true));
         }
         b.x.link(1, false);
-        Check.no("off already", b.x.link(1, false));
-        b.unchanged("off already", f -> f.link(1, false));
-        Check.no("off at first", new Bench(KEY).x.link(0, false));
+        b.refused("off already", f -> f.link(1, false));
+        new Bench(KEY).refused("off at first", f -> f.link(0, false));
     }
 
     private static void linkOn() {
@@ -308,21 +297,18 @@ public final class SettingsTest {
         Bench b = Bench.busy();
         for (boolean on : new boolean[] {true, false}) {
             for (int s : new int[] {-1, 2}) {
-                Check.no("s " + s, b.x.power(s, on));
-                b.unchanged("s " + s, f -> f.power(s, on));
+                b.refused("s " + s, f -> f.power(s, on));
             }
             for (int far : Bench.FAR) {
-                Check.no("s " + far, b.x.power(far, on));
+                b.refused("s " + far, f -> f.power(far, on));
             }
         }
         for (int s = 0; s < 2; s++) {
             int at = s;
-            Check.no("up already", b.x.power(s, true));
-            b.unchanged("up already", f -> f.power(at, true));
+            b.refused("up already", f -> f.power(at, true));
         }
         Check.yes("down", b.x.power(1, false));
-        Check.no("down already", b.x.power(1, false));
-        b.unchanged("down already", f -> f.power(1, false));
+        b.refused("down already", f -> f.power(1, false));
     }
 
     private static int[] request() {

@@ -468,6 +468,9 @@ public final class SwitchTest {
         b.bring(3, 0, answer(0, 2, -1, 3, 44, 3));
         Check.bytes("sent", b.latest(), 0, 3, 44, 3);
         b.port("OPEN", 2, 3, 1, 0, 0, 0, -1, 0, 6, -1, 1, 0, 45);
+        b = sentAgainOnce();
+        b.bring(3, 0, answer(0, 2, -1, 3, 0, 3));
+        b.port("LAST was sent again once", 2, 3, 1, 0, 1, 0, -1, 0, 6, -1, 1, 0, 1);
     }
 
     private static void visits() {
@@ -513,6 +516,19 @@ public final class SwitchTest {
         b.bring(0, 2, response(7, 4));
         b.ticks(16);
         b.port("by ticks", 2, 4, 0, 0, 0, 0, -1, 0, 6, 40, 0, 0, 8);
+        b = sentAgainOnce();
+        b.bring(3, 0, answer(0, 3, -1, 4, 0, 3));
+        b.port("LAST was sent again once", 2, 4, 0, 0, 1, 0, -1, 0, 6, -1, 0, 0, 1);
+    }
+
+    /** Port 2 has asked by the response to a request that was sent again once. */
+    private static Bench sentAgainOnce() {
+        Bench b = new Bench(KEY);
+        b.x.link(2, true);
+        b.ticks(5);
+        b.loseAll();
+        b.bring(0, 2, response(0, 1, 6));
+        return b;
     }
 
     private static void closeForgets() {

@@ -185,6 +185,17 @@ public final class TickTest {
         b.port("the other is 0", 2, 2, 0, 0, 0, 0, 0, 1, 6, 50);
         b.ticks(8);
         Check.due("HELD", b.x.port(2, 0), 4);
+        b = new Bench(KEY);
+        b.query(1, 5);
+        b.ticks(4);
+        b.query(2, 6);
+        b.ticks(4);
+        b.port("port 1 asks server 1", 1, 2, 0, 0, 0, 0, 1, 1);
+        b.bring(3, 1, answer(2, 3, -1, 4, 0, 3));
+        Check.due("which is the FAVOURITE", b.x.favourite(), 1);
+        b.port("port 2 has tried 0 twice", 2, 2, 0, 0, 0, 0, 0, 2);
+        b.ticks(4);
+        b.port("the other than it tried", 2, 2, 0, 0, 0, 0, 1, 1);
     }
 
     private static void failsAfterSecond() {
