@@ -18,6 +18,7 @@ public final class ServerTest {
         answersAreTheServersOwn();
         oneByteOfData();
         knownUsers();
+        knownToBothServers();
         sessionNumbers();
         firstMethod();
         tokenOfSession();
@@ -311,6 +312,18 @@ public final class ServerTest {
         }
         b.x.user(3, 0, 1);
         asked("a key may be 0", b, -1, identity(0, 3), 2, challenge(0, 2));
+    }
+
+    private static void knownToBothServers() {
+        Check.says("USERS 0 .. 7 are known to both servers");
+        for (int u = 0; u < 8; u++) {
+            Bench b = new Bench(KEY);
+            b.x.user(u, 40 + u, 1);
+            for (int s = 0; s < 2; s++) {
+                int[] data = Wire.cat(Wire.row(4), Wire.four(random(40 + u, s, 0)));
+                Check.bytes("user " + u + " at server " + s, ask(b, s, -1, identity(0, u)), due(11, 0, Wire.packet(1, 1, data)));
+            }
+        }
     }
 
     private static void sessionNumbers() {
