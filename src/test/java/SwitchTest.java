@@ -275,7 +275,7 @@ public final class SwitchTest {
     }
 
     private static void asksWithUserTokenAndPacket() {
-        Check.says("To ASK a server: the next request ... with CODE 1, the user as NAME, the TOKEN if it has one, and the response's packet; TRIES 1, CLOCK 0");
+        Check.says("with CODE 1, the user as NAME, the TOKEN if it has one, and the response's packet; TRIES 1, CLOCK 0");
         Bench b = new Bench(KEY);
         b.x.link(3, true);
         b.ticks(3);
@@ -398,7 +398,8 @@ public final class SwitchTest {
         Check.says("Where ... a datagram that is not accepted, comes to, it is counted there, and nothing else happens.");
         Bench b = asked();
         int[] right = answer(0, 11, 9, 1, 1, 4, 4);
-        int[][] rows = {Wire.with(right, 20, Wire.row(right[20] ^ 1)), answer(0, 2, -1, 4, 1, 3), {3}, answer(1, 11, 9, 1, 1, 4, 4)};
+        int[][] rows = {Wire.with(right, 20, Wire.row(right[20] ^ 1)), answer(0, 2, -1, 4, 1, 3), {3},
+            answer(1, 11, 9, 1, 1, 4, 4)};
         for (int i = 0; i < rows.length; i++) {
             b.idle("not accepted", 3, 0, rows[i]);
             Check.due("counted", b.x.wrong(0), i + 1);
